@@ -1,0 +1,140 @@
+import java.util.function.IntSupplier;
+
+/** What all tests use: LINES written as text, and a count of the answers that are not as due. */
+final class Check {
+    private static final String[] VERBS = {"MAKE", "WRITE", "SHOW", "TAKE", "GO", "SORT", "SUM", "WAIT"};
+    private static final String[] JOINS = {"PIPE", "AND", "OR", "BEHIND"};
+
+    private final String test;
+    private int wrong;
+
+    Check(String test) {
+        this.test = test;
+    }
+
+    /** The TOKENS of a text: NAMES as digits, NUMBERS as #0 to #59, all others by their words. */
+    static int[] tokens(String text) {
+        String[] words = text.trim().isEmpty() ? new String[0] : text.trim().split(" +");
+        int[] tokens = new int[words.length];
+        for (int k = 0; k < words.length; k++) {
+            tokens[k] = tokenOf(words[k]);
+        }
+        return tokens;
+    }
+
+    private static int tokenOf(String word) {
+        for (int k = 0; k < VERBS.length; k++) {
+            if (VERBS[k].equals(word)) {
+                return 20 + k;
+            }
+        }
+        for (int k = 0; k < JOINS.length; k++) {
+            if (JOINS[k].equals(word)) {
+                return 30 + k;
+            }
+        }
+        if (word.equals("UP")) {
+            return 10;
+        }
+        if (word.equals("STAR")) {
+            return 11;
+        }
+        return word.startsWith("#") ? 40 + Integer.parseInt(word.substring(1)) : Integer.parseInt(word);
+    }
+
+    /** Writes the TOKENS in place of the LINE that is there. */
+    static void type(ShellsmithRoom room, String text) {
+        room.erase(16);
+        for (int token : tokens(text)) {
+            room.token(token);
+        }
+    }
+
+    static int run(ShellsmithRoom room, String text) {
+        type(room, text);
+        return room.run();
+    }
+
+    /** A new object that has run these LINES. */
+    static ShellsmithRoom after(String... lines) {
+        ShellsmithRoom room = new ShellsmithRoom();
+        for (String text : lines) {
+            run(room, text);
+        }
+        return room;
+    }
+
+    static String output(ShellsmithRoom room) {
+        StringBuilder all = new StringBuilder();
+        for (int k = 0; k < room.many(7); k++) {
+            all.append(k == 0 ? "" : " ").append(room.output(k));
+        }
+        return all.toString();
+    }
+
+    static String file(ShellsmithRoom room, int node) {
+        StringBuilder all = new StringBuilder();
+        for (int k = 0; k < room.ofNode(node, 3); k++) {
+            all.append(k == 0 ? "" : " ").append(room.number(node, k));
+        }
+        return all.toString();
+    }
+
+    static String completions(ShellsmithRoom room) {
+        StringBuilder all = new StringBuilder();
+        for (int k = 0; k < 100; k++) {
+            try {
+                int token = room.complete(k);
+                all.append(k == 0 ? "" : " ").append(token);
+            } catch (IndexOutOfBoundsException none) {
+                return all.toString();
+            }
+        }
+        return all.toString();
+    }
+
+    void due(String what, long got, long want) {
+        if (got != want) {
+            tell(what, Long.toString(got), Long.toString(want));
+        }
+    }
+
+    void due(String what, double got, double want) {
+        if (got != want) {
+            tell(what, Double.toString(got), Double.toString(want));
+        }
+    }
+
+    void due(String what, String got, String want) {
+        if (!got.equals(want)) {
+            tell(what, got, want);
+        }
+    }
+
+    /** The call has to throw just this exception, and to change nothing. */
+    void dueThrow(String what, ShellsmithRoom room, Class<?> want, IntSupplier call) {
+        long before = room.digest();
+        String got;
+        try {
+            got = Integer.toString(call.getAsInt());
+        } catch (RuntimeException thrown) {
+            got = thrown.getClass().getName();
+        }
+        if (!got.equals(want.getName())) {
+            tell(what, got, want.getName());
+        }
+        due(what + ": the digest behind the throw", room.digest(), before);
+    }
+
+    private void tell(String what, String got, String want) {
+        wrong++;
+        System.out.println(test + ": " + what + " answered " + got + ", due is " + want);
+    }
+
+    void end() {
+        System.out.println(test + ": " + (wrong == 0 ? "all answers are as due" : wrong + " answers are not as due"));
+        if (wrong != 0) {
+            System.exit(1);
+        }
+    }
+}
