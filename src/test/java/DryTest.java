@@ -28,6 +28,9 @@ public final class DryTest {
         ShellsmithRoom room = Check.after("MAKE 1", "GO 1");
         dryDue(room, "", -1, 0, 0, 0, 1, 0, 0);
         dryDue(room, "GO UP AND GO", -1, 0, 0, 0, 1, 0, 0);
+        Check.run(room, "SHOW UP");
+        CHECK.due("the last OUTPUT", Check.output(room), "1");
+        dryDue(room, "SHOW", -1, 0, 0, 0, 1, 0, 0);
         CHECK.dueThrow("dry(7)", room, ARGUMENT, () -> room.dry(7));
         CHECK.dueThrow("dry(-1)", room, ARGUMENT, () -> room.dry(-1));
     }
@@ -51,6 +54,8 @@ public final class DryTest {
         dryDue(room, "WRITE 1 #1 #2", 1, 0, 0, 0);
         dryDue(room, "WRITE 1 #2 #1", 1, 0, 0, 1);
         dryDue(room, "WRITE 1 #1", 1, 0, 0, 1);
+        dryDue(room, "WRITE 1 #2 #2", 1, 0, 0, 1);
+        dryDue(room, "WRITE 1 #1 #1", 1, 0, 0, 1);
         dryDue(room, "SHOW 1 PIPE WRITE 2 PIPE WRITE 1", 1, 0, 0, 2);
         dryDue(room, "WRITE 3 #1", 1, 1, 0, 0);
         dryDue(room, "TAKE 1 AND WRITE 7 #9", 1, 0, 0, 1);

@@ -106,6 +106,7 @@ public final class FilesTest {
         runDue(room, "SHOW 5", 1, "");
         runDue(room, "SHOW 3", 0, "");
         runDue(room, "SHOW 3 UP", 0, "");
+        runDue(room, "MAKE 0 PIPE WRITE 9 PIPE SHOW UP 7", 1, "0 5 9");
         runDue(room, "SHOW UP 3 3", 0, "");
         runDue(room, "SHOW UP UP UP", 1, "3 7");
     }
@@ -132,6 +133,9 @@ public final class FilesTest {
         runDue(room, "TAKE 3", 1, "");
         CHECK.due("not there", room.ofNode(3, 0), 0);
         CHECK.due("without NUMBERS", room.ofNode(3, 3), 0);
+        CHECK.due("without a NAME", room.ofNode(3, 1), -1);
+        CHECK.due("without a PARENT", room.ofNode(3, 2), -1);
+        CHECK.dueThrow("number(3, 0) behind TAKE", room, INDEX, () -> room.number(3, 0));
         Check.run(room, "GO 1 2");
         runDue(room, "TAKE UP 2", 0, "");
         runDue(room, "GO UP AND TAKE 2", 1, "");
@@ -148,7 +152,7 @@ public final class FilesTest {
     }
 
     private static void takingStars() {
-        ShellsmithRoom room = Check.after("MAKE 1", "WRITE 2 #1", "WRITE 3 #1", "MAKE 1 2", "WRITE 1 3", "WRITE 1 4");
+        ShellsmithRoom room = Check.after("MAKE 1", "WRITE 2 #1", "WRITE 3 #1", "MAKE 1 2", "WRITE 1 0", "WRITE 1 9");
         runDue(room, "TAKE 1 STAR", 1, "");
         CHECK.due("FILES", room.many(1), 2);
         CHECK.due("NODES", room.many(0), 5);
@@ -241,6 +245,8 @@ public final class FilesTest {
         CHECK.due("meanNumber() without any", room.meanNumber(), 0.0);
         Check.run(room, "WRITE 1");
         CHECK.due("meanNumber() of an empty FILE", room.meanNumber(), 0.0);
+        Check.run(room, "WRITE 1 #7");
+        CHECK.due("meanNumber() of 7", room.meanNumber(), 7.0);
         Check.run(room, "WRITE 1 #1 #2");
         CHECK.due("meanNumber() of 1 2", room.meanNumber(), 1.5);
         Check.run(room, "MAKE 2 AND WRITE 2 2 #1");

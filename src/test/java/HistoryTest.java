@@ -88,6 +88,7 @@ public final class HistoryTest {
         ruleDue("a FAULT, then RIGHT", Check.after("MAKE #1", "MAKE 1"), 41, 1, 1);
         ruleDue("a FAULT, then a JOB", Check.after("GO #1 BEHIND", "GO 1 BEHIND"), 41, 1, 1);
         ruleDue("the VERB", Check.after("1 1", "MAKE 1"), 1, 20, 1);
+        ruleDue("from the TOKEN 0", Check.after("GO 0", "GO UP"), 0, 10, 1);
         ShellsmithRoom room = Check.after("SHOW 5", "SHOW UP", "GO 5", "GO UP", "MAKE UP", "MAKE 3");
         ruleDue("two RULES", room, 10, 3, 2);
         CHECK.due("the other one", room.rule(5), 10);
@@ -133,6 +134,11 @@ public final class HistoryTest {
         Check.type(room, "GO #7");
         CHECK.due("of a LINE with a FAULT", room.correct(), 1);
         CHECK.due("written(1)", room.written(1), 2);
+        Check.run(room, "9 3");
+        Check.run(room, "MAKE 3");
+        Check.type(room, "9 4");
+        CHECK.due("in the first place", room.correct(), 0);
+        CHECK.due("written(0)", room.written(0), 20);
         Check.type(room, "SHOW 5 AND GO #7");
         CHECK.due("a FAULT that stays", room.correct(), -1);
         Check.type(room, "MAKE 5 AND TAKE #7 AND SHOW 5");
