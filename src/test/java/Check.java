@@ -42,9 +42,27 @@ final class Check {
         return word.startsWith("#") ? 40 + Integer.parseInt(word.substring(1)) : Integer.parseInt(word);
     }
 
+    /** All that are TOKENS, from the smallest on. */
+    static int[] allTokens() {
+        int[] ends = {0, 11, 20, 27, 30, 33, 40, 99};
+        int[] all = new int[84];
+        int size = 0;
+        for (int k = 0; k < ends.length; k += 2) {
+            for (int token = ends[k]; token <= ends[k + 1]; token++) {
+                all[size++] = token;
+            }
+        }
+        return all;
+    }
+
     /** Writes the TOKENS in place of the LINE that is there. */
     static void type(ShellsmithRoom room, String text) {
         room.erase(16);
+        write(room, text);
+    }
+
+    /** Writes the TOKENS behind those that are there. */
+    static void write(ShellsmithRoom room, String text) {
         for (int token : tokens(text)) {
             room.token(token);
         }
@@ -109,6 +127,25 @@ final class Check {
         if (!got.equals(want)) {
             tell(what, got, want);
         }
+    }
+
+    void runDue(ShellsmithRoom room, String text, int right, String output) {
+        due(text, run(room, text), right);
+        due(text + ": OUTPUT", output(room), output);
+    }
+
+    void jobDue(ShellsmithRoom room, int job, int commands, int steps, int held, int working) {
+        due("ofJob(" + job + ", 0)", room.ofJob(job, 0), commands);
+        due("ofJob(" + job + ", 1)", room.ofJob(job, 1), steps);
+        due("ofJob(" + job + ", 2)", room.ofJob(job, 2), held);
+        due("ofJob(" + job + ", 3)", room.ofJob(job, 3), working);
+    }
+
+    void nodeDue(ShellsmithRoom room, int node, int kind, int name, int parent, int size) {
+        due("ofNode(" + node + ", 0)", room.ofNode(node, 0), kind);
+        due("ofNode(" + node + ", 1)", room.ofNode(node, 1), name);
+        due("ofNode(" + node + ", 2)", room.ofNode(node, 2), parent);
+        due("ofNode(" + node + ", 3)", room.ofNode(node, 3), size);
     }
 
     /** The call has to throw just this exception, and to change nothing. */

@@ -1,3 +1,8 @@
+import java.math.BigInteger;
+import java.util.ArrayList;
+import java.util.Arrays;
+import java.util.List;
+
 /** Promises 20, 21, 23 and 24: what a LINE would do, how far a NODE is, and the checksum. */
 public final class DryTest {
     private static final Check CHECK = new Check("DryTest");
@@ -114,67 +119,91 @@ public final class DryTest {
 
     private static void digests() {
         String[] lines = {"MAKE 1", "WRITE 1 2 #7 #8", "GO 1", "SHOW 2", "WAIT #4 AND GO UP BEHIND", "GO 9", "GO UP",
-            "SHOW 1 STAR"};
-        ShellsmithRoom room = new ShellsmithRoom();
-        for (String text : lines) {
-            Check.type(room, text);
-            CHECK.due("digest() ahead of " + text, room.digest(), digestOf(room));
-            room.run();
-            CHECK.due("digest() behind " + text, room.digest(), digestOf(room));
+            "SHOW 1 STAR", "WAIT #7 BEHIND", "GO UP", "GO UP", "GO UP", "GO UP"};
+        for (int many = 0; many < lines.length; many++) {
+            String[] ran = Arrays.copyOf(lines, many);
+            long ahead = digestOf(typedBehind(lines[many], ran));
+            CHECK.due("digest() ahead of " + lines[many], typedBehind(lines[many], ran).digest(), ahead);
+            ran = Arrays.copyOf(lines, many + 1);
+            CHECK.due("digest() behind " + lines[many], Check.after(ran).digest(), digestOf(Check.after(ran)));
         }
     }
 
+    private static ShellsmithRoom typedBehind(String text, String... lines) {
+        ShellsmithRoom room = Check.after(lines);
+        Check.type(room, text);
+        return room;
+    }
+
     private static long digestOf(ShellsmithRoom room) {
-        long d = 5752;
+        List<Integer> all = new ArrayList<>();
         for (int what = 0; what < 10; what++) {
-            d = d * 31 + room.many(what);
+            all.add(room.many(what));
         }
+        addNodes(all, room);
+        addJobs(all, room);
+        for (int k = 0; k < all.get(6); k++) {
+            all.add(room.written(k));
+        }
+        for (int what = 0; what < 3; what++) {
+            all.add(room.line(what));
+        }
+        for (int what = 0; what < 7; what++) {
+            all.add(room.dry(what));
+        }
+        for (int k = 0; k < all.get(7); k++) {
+            all.add(room.output(k));
+        }
+        for (int kept = 0; kept < all.get(4); kept++) {
+            addKept(all, room, kept);
+        }
+        for (int token : Check.allTokens()) {
+            all.add(room.rule(token));
+        }
+        all.add(room.overIn(5));
+        return wrapped(all);
+    }
+
+    private static void addNodes(List<Integer> all, ShellsmithRoom room) {
         for (int node = 0; node < 24; node++) {
-            for (int what = 0; what < 4; what++) {
-                d = d * 31 + room.ofNode(node, what);
-            }
-            d = d * 31 + room.far(node);
-            for (int k = 0; room.ofNode(node, 0) == 2 && k < room.ofNode(node, 3); k++) {
-                d = d * 31 + room.number(node, k);
+            int kind = room.ofNode(node, 0);
+            int size = room.ofNode(node, 3);
+            all.addAll(List.of(kind, room.ofNode(node, 1), room.ofNode(node, 2), size, room.far(node)));
+            for (int k = 0; kind == 2 && k < size; k++) {
+                all.add(room.number(node, k));
             }
         }
+    }
+
+    private static void addJobs(List<Integer> all, ShellsmithRoom room) {
         for (int job = 0; job < 3; job++) {
             for (int what = 0; what < 4; what++) {
                 try {
-                    d = d * 31 + room.ofJob(job, what);
+                    all.add(room.ofJob(job, what));
                 } catch (IndexOutOfBoundsException notThere) {
                     break;
                 }
             }
         }
-        for (int k = 0; k < room.many(6); k++) {
-            d = d * 31 + room.written(k);
-        }
-        for (int what = 0; what < 3; what++) {
-            d = d * 31 + room.line(what);
-        }
-        for (int what = 0; what < 7; what++) {
-            d = d * 31 + room.dry(what);
-        }
-        for (int k = 0; k < room.many(7); k++) {
-            d = d * 31 + room.output(k);
-        }
-        for (int kept = 0; kept < room.many(4); kept++) {
-            try {
-                for (int k = 0; k < 16; k++) {
-                    d = d * 31 + room.kept(kept, k);
-                }
-            } catch (IndexOutOfBoundsException end) {
-                continue;
+    }
+
+    private static void addKept(List<Integer> all, ShellsmithRoom room, int kept) {
+        try {
+            for (int k = 0; k < 16; k++) {
+                all.add(room.kept(kept, k));
             }
+        } catch (IndexOutOfBoundsException end) {
+            return;
         }
-        for (int token = 0; token < 100; token++) {
-            try {
-                d = d * 31 + room.rule(token);
-            } catch (IllegalArgumentException noToken) {
-                continue;
-            }
+    }
+
+    /** The sum without a bound, cut to 64 bits at the end: no wrap-around of Java's own is used. */
+    private static long wrapped(List<Integer> all) {
+        BigInteger d = BigInteger.valueOf(5752);
+        for (int v : all) {
+            d = d.multiply(BigInteger.valueOf(31)).add(BigInteger.valueOf(v));
         }
-        return d * 31 + room.overIn(5);
+        CHECK.due("the sum is beyond 64 bits", d.bitLength() > 64 ? 1 : 0, 1);
+        return d.longValue();
     }
 }

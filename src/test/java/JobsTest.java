@@ -19,24 +19,17 @@ public final class JobsTest {
         CHECK.end();
     }
 
-    private static void jobDue(ShellsmithRoom room, int job, int commands, int steps, int held, int working) {
-        CHECK.due("ofJob(" + job + ", 0)", room.ofJob(job, 0), commands);
-        CHECK.due("ofJob(" + job + ", 1)", room.ofJob(job, 1), steps);
-        CHECK.due("ofJob(" + job + ", 2)", room.ofJob(job, 2), held);
-        CHECK.due("ofJob(" + job + ", 3)", room.ofJob(job, 3), working);
-    }
-
     private static void coming() {
         ShellsmithRoom room = Check.after("WAIT #9 BEHIND", "WAIT #8 BEHIND", "WAIT #7 BEHIND");
         CHECK.due("JOBS", room.many(3), 3);
         CHECK.due("no number is free", Check.run(room, "MAKE 1 BEHIND"), 0);
         CHECK.due("nothing is done", room.many(0), 1);
-        jobDue(room, 0, 1, 6, 0, 0);
-        jobDue(room, 1, 1, 6, 0, 0);
-        jobDue(room, 2, 1, 6, 0, 0);
+        CHECK.jobDue(room, 0, 1, 6, 0, 0);
+        CHECK.jobDue(room, 1, 1, 6, 0, 0);
+        CHECK.jobDue(room, 2, 1, 6, 0, 0);
         room.signal(1, 2);
         CHECK.due("a number is free", Check.run(room, "MAKE 1 BEHIND"), 1);
-        jobDue(room, 1, 1, 1, 0, 0);
+        CHECK.jobDue(room, 1, 1, 1, 0, 0);
         CHECK.due("not run yet", room.many(0), 1);
         CHECK.due("a number that comes free first of all", Check.run(room, "MAKE 2 BEHIND"), 1);
         CHECK.due("the one ahead was run", room.ofNode(1, 1), 1);
@@ -46,16 +39,16 @@ public final class JobsTest {
 
     private static void steps() {
         ShellsmithRoom room = Check.after("WAIT #2 AND MAKE 1 AND WAIT #1 BEHIND");
-        jobDue(room, 0, 3, 2, 0, 0);
+        CHECK.jobDue(room, 0, 3, 2, 0, 0);
         Check.run(room, "1");
-        jobDue(room, 0, 3, 2, 0, 0);
+        CHECK.jobDue(room, 0, 3, 2, 0, 0);
         Check.run(room, "GO 5");
-        jobDue(room, 0, 3, 1, 0, 0);
+        CHECK.jobDue(room, 0, 3, 1, 0, 0);
         Check.run(room, "GO UP");
-        jobDue(room, 0, 2, 1, 0, 0);
+        CHECK.jobDue(room, 0, 2, 1, 0, 0);
         CHECK.due("MAKE 1 is to come", room.many(0), 1);
         CHECK.due("the JOB's STEP is first of all", Check.run(room, "GO 1"), 1);
-        jobDue(room, 0, 1, 1, 0, 0);
+        CHECK.jobDue(room, 0, 1, 1, 0, 0);
         CHECK.due("JOBS over", room.many(9), 0);
         Check.run(room, "GO UP");
         CHECK.due("JOBS", room.many(3), 0);
@@ -65,9 +58,9 @@ public final class JobsTest {
 
     private static void joins() {
         ShellsmithRoom room = Check.after("GO 7 AND MAKE 1 PIPE MAKE 2 OR MAKE 3 OR MAKE 4 BEHIND");
-        jobDue(room, 0, 5, 1, 0, 0);
+        CHECK.jobDue(room, 0, 5, 1, 0, 0);
         Check.run(room, "WAIT #1");
-        jobDue(room, 0, 2, 1, 0, 0);
+        CHECK.jobDue(room, 0, 2, 1, 0, 0);
         Check.run(room, "WAIT #1");
         CHECK.due("over, with one left out at the end", room.many(3), 0);
         CHECK.due("JOBS over", room.many(9), 1);
@@ -78,12 +71,12 @@ public final class JobsTest {
     private static void pipes() {
         ShellsmithRoom room = Check.after("WRITE 1 #9 #4", "SHOW 1 PIPE WAIT #2 PIPE SORT PIPE WRITE 2 AND WRITE 3 BEHIND");
         Check.run(room, "WRITE 1 #8 #7");
-        jobDue(room, 0, 4, 2, 0, 0);
+        CHECK.jobDue(room, 0, 4, 2, 0, 0);
         Check.run(room, "SHOW 1 PIPE SUM");
-        jobDue(room, 0, 4, 1, 0, 0);
+        CHECK.jobDue(room, 0, 4, 1, 0, 0);
         CHECK.due("the OUTPUT is that of the LINE", Check.output(room), "15");
         Check.run(room, "WAIT #1");
-        jobDue(room, 0, 3, 1, 0, 0);
+        CHECK.jobDue(room, 0, 3, 1, 0, 0);
         Check.run(room, "WAIT #1");
         Check.run(room, "WAIT #1");
         CHECK.due("what the PIPE brought", Check.file(room, 2), "4 9");
@@ -101,9 +94,9 @@ public final class JobsTest {
 
     private static void working() {
         ShellsmithRoom room = Check.after("MAKE 1", "MAKE 1 2", "GO 1", "GO 2 AND WAIT #5 AND TAKE UP 2 BEHIND");
-        jobDue(room, 0, 3, 1, 0, 1);
+        CHECK.jobDue(room, 0, 3, 1, 0, 1);
         Check.run(room, "GO UP");
-        jobDue(room, 0, 2, 5, 0, 2);
+        CHECK.jobDue(room, 0, 2, 5, 0, 2);
         CHECK.due("the shell has its own", room.many(2), 0);
         CHECK.due("TAKE of a JOB's", Check.run(room, "TAKE 1 2"), 0);
         room.signal(0, 0);
@@ -127,15 +120,15 @@ public final class JobsTest {
         ShellsmithRoom room = Check.after("WAIT #3 BEHIND");
         CHECK.due("signal(0, 0)", room.signal(0, 0), 1);
         Check.run(room, "WAIT #1");
-        jobDue(room, 0, 1, 3, 1, 0);
+        CHECK.jobDue(room, 0, 1, 3, 1, 0);
         CHECK.due("held twice", room.signal(0, 0), 1);
         CHECK.due("signal(0, 1)", room.signal(0, 1), 1);
         Check.run(room, "WAIT #1");
-        jobDue(room, 0, 1, 2, 0, 0);
+        CHECK.jobDue(room, 0, 1, 2, 0, 0);
         room.signal(0, 0);
         room.signal(0, 2);
         Check.run(room, "WAIT #3 BEHIND");
-        jobDue(room, 0, 1, 3, 0, 0);
+        CHECK.jobDue(room, 0, 1, 3, 0, 0);
     }
 
     private static void ending() {
@@ -144,9 +137,9 @@ public final class JobsTest {
         CHECK.due("JOBS", room.many(3), 1);
         CHECK.due("not over by itself", room.many(9), 0);
         CHECK.dueThrow("signal(0, 2) anew", room, INDEX, () -> room.signal(0, 2));
-        jobDue(room, 1, 1, 2, 0, 0);
+        CHECK.jobDue(room, 1, 1, 2, 0, 0);
         CHECK.due("its number is free", Check.run(room, "GO UP OR GO UP BEHIND"), 1);
-        jobDue(room, 0, 2, 1, 0, 0);
+        CHECK.jobDue(room, 0, 2, 1, 0, 0);
     }
 
     private static void arguments() {
